@@ -76,7 +76,7 @@ public final class NoteThemes {
         if (board.notes >= MOST_NOTES) {
             return FULL;
         }
-        history.record(board);
+        history.remember(board);
         board.addNote(column, row);
         return board.notes - 1;
     }
@@ -93,7 +93,7 @@ public final class NoteThemes {
         if (boardText.notesRead > MOST_NOTES) {
             return FULL;
         }
-        history.record(board);
+        history.remember(board);
         board.copyFrom(trial);
         return board.notes;
     }
@@ -103,7 +103,7 @@ public final class NoteThemes {
         if (!board.hasNote(note)) {
             return UNKNOWN;
         }
-        history.record(board);
+        history.remember(board);
         int back = board.dotsOn(note);
         board.removeNote(note);
         return back;
@@ -117,7 +117,7 @@ public final class NoteThemes {
         if (board.columnOf[note] == column && board.rowOf[note] == row) {
             return NONE;
         }
-        history.record(board);
+        history.remember(board);
         board.moveNote(note, column, row);
         return findHeaps();
     }
@@ -137,7 +137,7 @@ public final class NoteThemes {
         if (right == 0 && down == 0) {
             return NONE;
         }
-        history.record(board);
+        history.remember(board);
         moveHeap(heap, right, down);
         return findHeaps();
     }
@@ -155,7 +155,7 @@ public final class NoteThemes {
         if (board.hasMostDots(person, note)) {
             return NOT_POSSIBLE;
         }
-        history.record(board);
+        history.remember(board);
         board.addDots(person, note, 1);
         return board.dotsOn(note);
     }
@@ -168,7 +168,7 @@ public final class NoteThemes {
         if (board.dotsOfPerson(person, note) == 0) {
             return NOT_POSSIBLE;
         }
-        history.record(board);
+        history.remember(board);
         board.addDots(person, note, -1);
         return board.dotsOn(note);
     }
@@ -187,7 +187,7 @@ public final class NoteThemes {
         if (board.themes >= MOST_THEMES) {
             return FULL;
         }
-        history.record(board);
+        history.remember(board);
         int theme = board.addTheme();
         for (int note = 0; note < board.notes; note++) {
             if (heapsNow.heapOf[note] == heap && board.themeOf[note] == NONE) {
@@ -205,7 +205,7 @@ public final class NoteThemes {
         if (first == second) {
             return BAD_VALUE;
         }
-        history.record(board);
+        history.remember(board);
         board.mergeThemes(first, second);
         // The first one has moved up if the one that went was ahead of it.
         return board.notesOfTheme(second < first ? first - 1 : first);
@@ -220,7 +220,7 @@ public final class NoteThemes {
         if (before == theme) {
             return NONE;
         }
-        history.record(board);
+        history.remember(board);
         board.themeOf[note] = theme;
         board.removeThemeIfEmpty(before);
         return board.themes;
@@ -237,7 +237,7 @@ public final class NoteThemes {
         if (board.voteOf(person, theme) == name) {
             return NONE;
         }
-        history.record(board);
+        history.remember(board);
         board.setVote(person, theme, name);
         names.choose(board);
         return names.nameOf[theme] == NONE ? NO_NAME : names.nameOf[theme];
@@ -255,7 +255,7 @@ public final class NoteThemes {
         if (before == value) {
             return NONE;
         }
-        history.record(board);
+        history.remember(board);
         board.settings[which] = value;
         return before;
     }
@@ -302,7 +302,7 @@ public final class NoteThemes {
         if (!hasSnapshot) {
             return NONE;
         }
-        history.record(board);
+        history.remember(board);
         board.copyFrom(snapshot);
         return board.notes;
     }
@@ -1034,7 +1034,7 @@ public final class NoteThemes {
             }
         }
 
-        void record(Board board) {
+        void remember(Board board) {
             if (states >= MOST_STATES) {
                 dropOldest();
             }
