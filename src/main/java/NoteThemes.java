@@ -90,6 +90,7 @@ public final class NoteThemes {
         if (fault != BoardText.NO_FAULT) {
             return FIRST_FAULT - fault;
         }
+        // 80 characters hold 20 notes at the most, so this is for a longer text.
         if (boardText.notesRead > MOST_NOTES) {
             return FULL;
         }

@@ -75,7 +75,9 @@ public final class ThemesTest {
         Check.due("merge(-1, 0)", x.merge(-1, 0), UNKNOWN);
         Check.due("merge(0, NONE)", x.merge(0, NONE), UNKNOWN);
         Check.due("merge(1, 1)", x.merge(1, 1), BAD_VALUE);
-        Check.due("merge(2, 0)", x.merge(2, 0), 2);
+        x.belong(4, 2);
+        Check.due("merge(2, 0)", x.merge(2, 0), 3);
+        x.belong(4, NONE);
         Check.due("count(2)", x.count(2), 2);
         Check.due("note(0, 4)", x.note(0, 4), 1);
         Check.due("note(1, 4)", x.note(1, 4), 0);
@@ -180,6 +182,12 @@ public final class ThemesTest {
         Check.due("a name that goes", x.vote(5, 0, NONE), NO_NAME);
         Check.due("is free for the next", x.theme(1, 2), 4);
         Check.due("and that one's for the next but one", x.theme(2, 2), 2);
+        x.takeOff(0);
+        Check.due("the names when a theme has gone", x.theme(0, 2), 4);
+        x.undo();
+        Check.due("the names when it has come back", x.theme(0, 2), NONE);
+        x.merge(2, 1);
+        Check.due("the name of merged themes, that none has taken now", x.theme(1, 2), 4);
     }
 
     private static void promise13Set() {

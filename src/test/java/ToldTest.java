@@ -127,6 +127,12 @@ public final class ToldTest {
 
     private static void promise24IfDragged() {
         Check.about("promise 24");
+        NoteThemes first = Boards.at(0, 0, 3, 0, 6, 0);
+        Check.due("ifDragged(1, 29, 19, 2)", first.ifDragged(1, 29, 19, 2), 2);
+        first.set(0, 6);
+        Check.due("ifDragged(2, 29, 19, 2) with another reach", first.ifDragged(2, 29, 19, 2), 2);
+        first.set(0, 2);
+        Check.due("ifDragged(1, 1, 0, 2)", first.ifDragged(1, 1, 0, 2), 0);
         NoteThemes x = Boards.at(0, 0, 3, 0, 6, 0, 20, 10, 22, 10);
         dragged(x, 1, 20, 9, 3, 3, 2);
         dragged(x, 1, 3, 0, 2, 3, 0);
@@ -195,11 +201,13 @@ public final class ToldTest {
         x.stick(0, 0);
         x.stick(1, 1);
         x.stick(1, 1);
+        x.make(2);
         x.vote(0, 1, 2);
         x.vote(1, 1, 2);
+        x.vote(1, 0, 2);
         x.set(0, 5);
         Boards.typeAll(x, "12345");
-        int[] due = {5, 4, 2, 3, 21, 2, 1, 3, 5, 4, 2, 4, 5};
+        int[] due = {5, 4, 3, 3, 21, 1, 1, 3, 5, 4, 2, 4, 5};
         for (int what = 0; what < due.length; what++) {
             Check.due("count(" + what + ")", x.count(what), due[what]);
         }
