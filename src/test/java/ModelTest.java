@@ -167,11 +167,13 @@ public final class ModelTest {
         if (random.nextInt(2) == 0) {
             spoil(text);
         }
-        for (int i = 0; i < text.length(); i++) {
+        for (int i = 0; i < text.length() && calls < CALLS; i++) {
             char sign = text.charAt(i);
             same("type((char) " + (int) sign + ")", x.type(sign), model.type(sign));
         }
-        same("load()", x.load(), model.load());
+        if (calls < CALLS) {
+            same("load()", x.load(), model.load());
+        }
     }
 
     private void spoil(StringBuilder text) {

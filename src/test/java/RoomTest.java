@@ -11,7 +11,9 @@ import java.util.Set;
 public final class RoomTest {
     private static final int MOST_OBJECTS = 100;
     private static final int MOST_ELEMENTS = 3000;
-    private static final int ROUNDS = 2000;
+    private static final int MADE = 700;
+    /** A round has 142 calls, and an object is used for at most 512. */
+    private static final int ROUNDS = 3;
     /** What the measuring itself may take; one int for each call would be far more. */
     private static final long MOST_BYTES = 100_000;
 
@@ -57,19 +59,25 @@ public final class RoomTest {
     private static void callsMakeNothing() {
         Check.about("room");
         ThreadMXBean threads = (ThreadMXBean) ManagementFactory.getThreadMXBean();
-        NoteThemes x = new NoteThemes();
-        long warm = allCalls(x, 10);
+        NoteThemes[] made = new NoteThemes[MADE];
+        for (int i = 0; i < MADE; i++) {
+            made[i] = new NoteThemes();
+        }
+        long warm = allCalls(new NoteThemes());
         long thread = Thread.currentThread().getId();
         long before = threads.getThreadAllocatedBytes(thread);
-        long sum = allCalls(x, ROUNDS);
-        long made = threads.getThreadAllocatedBytes(thread) - before;
-        Check.holds("calls make " + made + " bytes", made <= MOST_BYTES);
+        long sum = 0;
+        for (int i = 0; i < MADE; i++) {
+            sum += allCalls(made[i]);
+        }
+        long bytes = threads.getThreadAllocatedBytes(thread) - before;
+        Check.holds("calls make " + bytes + " bytes", bytes <= MOST_BYTES);
         Check.holds("the calls did something", warm != 0 && sum != 0);
     }
 
-    private static long allCalls(NoteThemes x, int rounds) {
+    private static long allCalls(NoteThemes x) {
         long sum = 0;
-        for (int round = 0; round < rounds; round++) {
+        for (int round = 0; round < ROUNDS; round++) {
             sum += x.put(round % 30, round % 20) + x.put(round % 7, 3) + x.make(0) + x.make(1) + x.keep();
             sum += x.stick(round % 6, 0) + x.stick(1, 1) + x.unstick(1, 1) + x.vote(round % 6, 0, 4);
             sum += x.drag(0, round % 11, 5) + x.dragHeap(0, 1, 1) + x.belong(1, 0) + x.merge(0, 1) + x.set(0, round % 9);

@@ -1,0 +1,48 @@
+import java.io.IOException;
+import java.io.UncheckedIOException;
+import java.nio.file.Files;
+import java.nio.file.Path;
+import java.util.LinkedHashMap;
+import java.util.Map;
+import java.util.Set;
+
+/** The document ../shared/DOC.md, section by section: "What it is", "NOTES", "Promise 2" and so on. */
+final class Document {
+    private static final Path FILE = Path.of("..", "shared", "DOC.md");
+    private static final Map<String, String> SECTIONS = read();
+
+    private Document() {
+    }
+
+    /** The text of a section, or an empty one if there is no such section. */
+    static String section(String name) {
+        return SECTIONS.getOrDefault(name, "");
+    }
+
+    static Set<String> sections() {
+        return SECTIONS.keySet();
+    }
+
+    private static Map<String, String> read() {
+        Map<String, String> sections = new LinkedHashMap<>();
+        String name = "";
+        for (String line : lines()) {
+            if (line.startsWith("## ")) {
+                name = line.substring(3).replaceFirst("^(Promise [0-9]+):.*", "$1");
+            } else if (line.matches("[A-Z]+(, [A-Z]+)*")) {
+                name = line;
+            } else {
+                sections.merge(name, line + "\n", String::concat);
+            }
+        }
+        return sections;
+    }
+
+    private static Iterable<String> lines() {
+        try {
+            return Files.readAllLines(FILE);
+        } catch (IOException e) {
+            throw new UncheckedIOException(e);
+        }
+    }
+}
