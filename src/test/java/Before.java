@@ -5,7 +5,13 @@ enum Before {
     /** Some of each: three heaps, two themes, a note without one, three states, a snapshot, a short text. */
     SOME,
     /** Full: 20 notes, 8 themes, 4 states, 80 characters, no dot left of the person 0, no more for it on the note 0. */
-    FULL;
+    FULL,
+    /** Full, but for the history: all of it is undone. */
+    UNDONE,
+    /** Full, but for the snapshot: there is none. */
+    UNKEPT,
+    /** Full, with a fault in the text: its last character. */
+    FAULTY;
 
     static final int SOME_NOTES = 5;
     static final int SOME_HEAPS = 3;
@@ -17,7 +23,13 @@ enum Before {
             case SOME:
                 return some();
             case FULL:
-                return full();
+                return full(true, '*');
+            case UNDONE:
+                return undone(full(true, '*'));
+            case UNKEPT:
+                return full(false, '*');
+            case FAULTY:
+                return full(true, ',');
             default:
                 return new NoteThemes();
         }
@@ -44,11 +56,13 @@ enum Before {
     }
 
     /** Each note is alone; the themes 0 to 7 are of the notes 0 to 7. The last act drags the note 19. */
-    private static NoteThemes full() {
+    private static NoteThemes full(boolean isKept, char last) {
         NoteThemes x = Boards.themes(20, 8);
         x.vote(0, 0, 4);
         x.vote(1, 0, 4);
-        x.keep();
+        if (isKept) {
+            x.keep();
+        }
         x.stick(0, 0);
         x.stick(0, 0);
         x.stick(0, 1);
@@ -57,7 +71,14 @@ enum Before {
         x.stick(1, 0);
         x.vote(2, 7, 4);
         x.drag(19, 29, 19);
-        Boards.typeAll(x, Boards.times(20, "9,9") + "*");
+        Boards.typeAll(x, Boards.times(20, "9,9") + last);
+        return x;
+    }
+
+    private static NoteThemes undone(NoteThemes x) {
+        for (int i = 0; i < 4; i++) {
+            x.undo();
+        }
         return x;
     }
 }

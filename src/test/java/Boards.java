@@ -51,7 +51,7 @@ final class Boards {
 
     /** The text of a note so many times. */
     static String times(int notes, String note) {
-        return String.join(";", java.util.Collections.nCopies(notes, note));
+        return (note + ";").repeat(notes - 1) + note;
     }
 
     /** All that an object keeps, but the states of its history, its snapshot and the signs of its text. */

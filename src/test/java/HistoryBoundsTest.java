@@ -237,9 +237,9 @@ public final class HistoryBoundsTest {
         Compare.unchanged(full, "set(0, 3)", NONE, x -> x.set(0, 3));
         Compare.unchanged(full, "set(0, 21)", BAD_VALUE, x -> x.set(0, 21));
         Compare.unchanged(full, "type('1')", FULL, x -> x.type('1'));
-        Compare.unchanged(Before.EMPTY, "load()", -100, x -> x.load());
-        Compare.unchanged(Before.EMPTY, "undo()", NONE, x -> x.undo());
-        Compare.unchanged(Before.EMPTY, "restore()", NONE, x -> x.restore());
+        Compare.unchanged(Before.FAULTY, "load()", -179, x -> x.load());
+        Compare.unchanged(Before.UNDONE, "undo()", NONE, x -> x.undo());
+        Compare.unchanged(Before.UNKEPT, "restore()", NONE, x -> x.restore());
     }
 
     private static void constants() {
@@ -300,18 +300,7 @@ public final class HistoryBoundsTest {
 
         Check.sentence("Promise 16", "NONE if the history is empty.");
         Compare.unchanged(Before.EMPTY, "undo()", NONE, y -> y.undo());
-        NoteThemes emptied = fullWithoutHistory();
-        Check.due("undo()", emptied.undo(), NONE);
-        Check.due("undo() again", emptied.undo(), NONE);
-        Check.same("what is there", Boards.told(emptied), Boards.told(fullWithoutHistory()));
-    }
-
-    private static NoteThemes fullWithoutHistory() {
-        NoteThemes x = Before.FULL.make();
-        for (int i = 0; i < 4; i++) {
-            x.undo();
-        }
-        return x;
+        Compare.unchanged(Before.UNDONE, "undo()", NONE, y -> y.undo());
     }
 
     // ---- Promise 17: keep
@@ -384,8 +373,6 @@ public final class HistoryBoundsTest {
 
         Check.sentence("Promise 18", "NONE if there is no snapshot.");
         Compare.unchanged(Before.EMPTY, "restore()", NONE, y -> y.restore());
-        NoteThemes none = Boards.themes(20, 8);
-        Check.due("restore()", none.restore(), NONE);
-        Check.same("what is there", Boards.told(none), Boards.told(Boards.themes(20, 8)));
+        Compare.unchanged(Before.UNKEPT, "restore()", NONE, y -> y.restore());
     }
 }

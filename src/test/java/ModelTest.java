@@ -13,7 +13,7 @@ public final class ModelTest {
     /** How wide the notes lie in this run. */
     private final int width;
     private final int height;
-    /** What this run does more than others: 0 nothing, 1 dots, 2 themes, 3 texts, 4 names. */
+    /** What this run does more than others: 0 nothing, 1 dots, 2 themes, 3 texts, 4 names, 5 on full boards. */
     private final int taste;
     private int calls = 0;
 
@@ -21,7 +21,7 @@ public final class ModelTest {
         random = new Random(7919L * run + 1);
         width = 1 + random.nextInt(random.nextBoolean() ? 12 : 30);
         height = 1 + random.nextInt(random.nextBoolean() ? 8 : 20);
-        taste = random.nextInt(5);
+        taste = random.nextInt(6);
         Check.about("run " + run);
     }
 
@@ -33,6 +33,9 @@ public final class ModelTest {
     }
 
     private void go() {
+        if (taste == 5) {
+            fill();
+        }
         while (calls < CALLS && !Check.isWrong()) {
             int kind = random.nextInt(100);
             if (kind < 40) {
@@ -42,6 +45,19 @@ public final class ModelTest {
             } else {
                 ask();
             }
+        }
+    }
+
+    /** Notes so many and so far apart that there is room for no more notes, and soon for no more themes. */
+    private void fill() {
+        same("set(0, 1)", x.set(0, 1), model.set(0, 1));
+        for (int i = 0; i < 20; i++) {
+            int column = random.nextInt(30);
+            int row = random.nextInt(20);
+            same("put(" + column + ", " + row + ")", x.put(column, row), model.put(column, row));
+        }
+        for (int heap = 0; heap < 6; heap++) {
+            same("make(" + heap + ")", x.make(heap), model.make(heap));
         }
     }
 

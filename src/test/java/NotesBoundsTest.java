@@ -338,6 +338,15 @@ public final class NotesBoundsTest {
         less.set(1, 1);
         less.set(2, 1);
         Check.due("dots that stayed when the settings were made less", less.takeOff(0), 2);
+        NoteThemes all = Boards.at(0, 0);
+        all.set(1, 9);
+        all.set(2, 9);
+        for (int i = 0; i < 54; i++) {
+            all.stick(i % 6, 0);
+        }
+        all.set(1, 1);
+        Check.due("all of them, though there are but 6 now", all.takeOff(0), 54);
+        Check.due("the 6 are left", all.count(4), 6);
     }
 
     // ---- Promise 5: drag

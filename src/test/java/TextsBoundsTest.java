@@ -304,16 +304,14 @@ public final class TextsBoundsTest {
             Boards.typeAll(x, "1,1*;5,5");
             return answer;
         });
-        NoteThemes fault = Before.SOME.make();
-        String before = Boards.told(fault);
-        fault.type('*');
-        fault.type('*');
-        fault.type('*');
-        Check.due("a dot too many in all", fault.load(), -110);
-        fault.clearText();
-        Boards.typeAll(fault, "1,1*;5,x");
-        Check.due("the last sign", fault.load(), -107);
-        Check.same("what is there behind faults", Boards.told(fault), before);
+        Compare.unchanged(Before.SOME, "load() with the third dot on a note", -110, x -> {
+            Boards.typeAll(x, "***");
+            int answer = x.load();
+            x.clearText();
+            Boards.typeAll(x, "1,1*;5,5");
+            return answer;
+        });
+        Compare.unchanged(Before.FAULTY, "load()", -179, x -> x.load());
         Check.due("the greatest fault", Boards.loaded(TWENTY + ";"), -180);
 
         // 21 notes take 83 characters, so that FULL comes about for no text at all.

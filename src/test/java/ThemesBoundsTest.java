@@ -317,6 +317,26 @@ public final class ThemesBoundsTest {
             Check.due("a name by votes of both", y.theme(kept, 2), 0);
             Check.due("the vote for another theme", y.votes(1 - kept, 8), 1);
         }
+        for (int person = 0; person < 6; person++) {
+            Check.due("none and none", mergedVote(person, NONE, NONE), NONE);
+            Check.due("only for the first one", mergedVote(person, 9, NONE), 9);
+            Check.due("only for the second one", mergedVote(person, NONE, 0), 0);
+            Check.due("for both", mergedVote(person, 9, 0), 9);
+        }
+    }
+
+    /** For which name a person has voted when two themes are merged; NONE for none. */
+    private static int mergedVote(int person, int first, int second) {
+        NoteThemes x = Boards.themes(2, 2);
+        x.vote(person, 0, first);
+        x.vote(person, 1, second);
+        x.merge(0, 1);
+        for (int name = 0; name <= 9; name++) {
+            if (x.votes(0, name) == 1) {
+                return name;
+            }
+        }
+        return NONE;
     }
 
     // ---- Promise 9: make

@@ -153,6 +153,16 @@ public final class ToldBoundsTest {
         Check.due("of all at one place", Boards.at(9, 9, 9, 9, 9, 9).heap(0, 5), 0);
         Check.due("others pull it", Boards.at(0, 0, 3, 0, 6, 0, 6, 0, 6, 0).heap(0, 5), 2);
         Check.due("other heaps do not", Boards.at(0, 0, 3, 0, 6, 0, 20, 0, 20, 0, 20, 0).heap(0, 5), 1);
+        NoteThemes wide = new NoteThemes();
+        for (int i = 0; i < 9; i++) {
+            wide.put(0, 0);
+            wide.put(29, 19);
+        }
+        wide.put(20, 12);
+        wide.put(10, 8);
+        wide.set(0, 20);
+        Check.due("20 notes in one heap", wide.heap(0, 0), 20);
+        Check.due("most of them in two corners", wide.heap(0, 5), 18);
 
         Check.sentence("Promise 21", "6 for the greatest distance of two of its notes");
         Check.due("alone", Boards.at(0, 0, 29, 19).heap(1, 6), 0);
