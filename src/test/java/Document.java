@@ -3,8 +3,10 @@ import java.io.UncheckedIOException;
 import java.nio.file.Files;
 import java.nio.file.Path;
 import java.util.LinkedHashMap;
+import java.util.List;
 import java.util.Map;
 import java.util.Set;
+import java.util.stream.Collectors;
 
 /** The document ../shared/DOC.md, section by section: "What it is", "NOTES", "Promise 2" and so on. */
 final class Document {
@@ -21,6 +23,12 @@ final class Document {
 
     static Set<String> sections() {
         return SECTIONS.keySet();
+    }
+
+    /** The lines of the public face, each with its end: "public int load();" and so on. */
+    static List<String> faceLines() {
+        return section("The public face").lines().map(String::trim).filter(line -> line.endsWith(";"))
+            .collect(Collectors.toList());
     }
 
     private static Map<String, String> read() {

@@ -5,14 +5,12 @@ import java.lang.reflect.Modifier;
 import java.nio.file.Files;
 import java.nio.file.Path;
 import java.util.Arrays;
-import java.util.List;
 import java.util.Set;
 import java.util.TreeSet;
 import java.util.regex.Matcher;
 import java.util.regex.Pattern;
-import java.util.stream.Collectors;
 
-/** The face of the document, and those rules of LANGUAGE.md that can be seen from the text or the class. */
+/** Those rules of LANGUAGE.md that can be seen from the text or the class; the face itself is for FaceTest. */
 public final class LanguageTest {
     private static final Path SOURCE = Path.of("src", "main", "java", "NoteThemes.java");
     private static final int LONGEST_METHOD = 60;
@@ -20,17 +18,8 @@ public final class LanguageTest {
     private static final int MOST_FIELDS = 20;
     private static final int MOST_PARAMETERS = 7;
 
-    private static final Set<String> FACE = Set.of(
-        "int put(int,int)", "int load()", "int takeOff(int)", "int drag(int,int,int)", "int dragHeap(int,int,int)",
-        "int stick(int,int)", "int unstick(int,int)", "int make(int)", "int merge(int,int)", "int belong(int,int)",
-        "int vote(int,int,int)", "int set(int,int)", "int type(char)", "int clearText()", "int undo()", "int keep()",
-        "int restore()", "int note(int,int)", "int dots(int,int)", "int heap(int,int)", "int theme(int,int)",
-        "int votes(int,int)", "int ifDragged(int,int,int,int)", "int reachFor(int)", "int nearest(int)",
-        "int count(int)");
-
     public static void main(String[] args) throws Exception {
-        constants();
-        face();
+        members();
         classesInside();
         staticFields();
         String code = withoutComments(Files.readString(SOURCE));
@@ -39,28 +28,16 @@ public final class LanguageTest {
         Check.end();
     }
 
-    private static void constants() throws Exception {
-        Check.about("the constants");
-        String[] names = {"UNKNOWN", "BAD_VALUE", "FULL", "NOT_POSSIBLE", "NONE"};
-        for (int i = 0; i < names.length; i++) {
-            Check.due(names[i], NoteThemes.class.getField(names[i]).getInt(null), -1 - i);
-        }
-        Check.due("public fields", NoteThemes.class.getFields().length, names.length);
-    }
-
-    private static void face() {
+    private static void members() {
         Check.about("rule 1");
-        Set<String> found = new TreeSet<>();
         Set<String> publicNames = new TreeSet<>();
         for (Method method : NoteThemes.class.getDeclaredMethods()) {
             if (!Modifier.isPrivate(method.getModifiers())) {
-                found.add(face(method));
                 publicNames.add(method.getName());
                 Check.holds(method + " is public and of the object",
                     Modifier.isPublic(method.getModifiers()) && !Modifier.isStatic(method.getModifiers()));
             }
         }
-        Check.holds("the face is that of the document: " + found, found.equals(FACE));
         for (Method method : NoteThemes.class.getDeclaredMethods()) {
             Check.holds(method + " does not bear the name of a public one",
                 !Modifier.isPrivate(method.getModifiers()) || !publicNames.contains(method.getName()));
@@ -74,12 +51,6 @@ public final class LanguageTest {
             Check.holds(field + " is private or a constant of the document",
                 Modifier.isPrivate(field.getModifiers()) || Modifier.isPublic(field.getModifiers()));
         }
-    }
-
-    private static String face(Method method) {
-        List<String> parameters = Arrays.stream(method.getParameterTypes()).map(Class::getName)
-            .collect(Collectors.toList());
-        return method.getReturnType().getName() + " " + method.getName() + "(" + String.join(",", parameters) + ")";
     }
 
     private static void classesInside() {
