@@ -1,5 +1,4 @@
 import java.io.IOException;
-import java.io.UncheckedIOException;
 import java.nio.file.Files;
 import java.nio.file.Path;
 import java.nio.file.StandardCopyOption;
@@ -26,19 +25,21 @@ public final class ReadmeTest {
     private static final Pattern CALL_AND_ANSWER =
         Pattern.compile("(?m)^ +(?:int (\\w+) = )?(x\\.\\w+\\(.*\\)); +// (-?[0-9]+|[A-Z_]+)\\b.*$");
 
+    /** What the example prints for such a call: the answer, that which is due, and the call. */
+    private static final Pattern DUE = Pattern.compile("(?m)^due (\\S+) (\\S+) (.*)$");
+
     /** A test that passes if the number is 0; the program answers put() with it. */
     private static final String SMALL_TEST = "public final class %s { public static void main(String[] args) {"
         + " if (new NoteThemes().put(0, 0) != %d) { System.out.println(\"put is wrong\"); System.exit(1); } } }\n";
     private static final String NO_JAVA = "public final class { }\n";
 
     private final Path folder;
-    private final List<Runnable> asked = new ArrayList<>();
 
     private ReadmeTest(Path folder) {
         this.folder = folder;
     }
 
-    public static void main(String[] args) throws IOException {
+    public static void main(String[] args) throws IOException, InterruptedException {
         Path folder = Files.createTempDirectory("readme");
         try {
             new ReadmeTest(folder).all();
@@ -56,63 +57,52 @@ public final class ReadmeTest {
         }
     }
 
-    /** All commands run at once, and are looked at when the last one has been started. */
-    private void all() throws IOException {
+    private void all() throws IOException, InterruptedException {
         example();
         answersInExample();
-        allTests();
-        oneTestAlone();
-        asked.forEach(Runnable::run);
         answers();
         calls();
+        allTests();
+        oneTestAlone();
         tests();
     }
 
     // ---- how to use the class
 
-    private void example() throws IOException {
+    private void example() throws IOException, InterruptedException {
+        Check.about("the example");
         Path project = copy("example", PROGRAM);
         write(project.resolve("Example.java"), one(USE, "java"));
-        Shell shell = Shell.start(project, one(USE, "sh"));
-        asked.add(() -> {
-            Check.about("the example");
-            Check.due("exit code", shell.exitCode(), 0);
-            Check.same("what it prints", shell.printed(), one(USE, "text"));
-        });
+        Shell shell = Shell.run(project, one(USE, "sh"));
+        Check.due("exit code", shell.exitCode, 0);
+        Check.same("what it prints", shell.printed, one(USE, "text"));
     }
 
-    /** The example once more, in which each call that has its answer behind it prints both. */
-    private void answersInExample() throws IOException {
+    private void answersInExample() throws IOException, InterruptedException {
+        Check.about("the answers in the example");
         String example = one(USE, "java");
-        Matcher call = CALL_AND_ANSWER.matcher(example);
-        StringBuilder asking = new StringBuilder();
-        int calls = 0;
-        while (call.find()) {
-            calls++;
-            String name = call.group(1) == null ? "answer" + calls : call.group(1);
-            String due = call.group(3).matches("[A-Z_]+") ? "NoteThemes." + call.group(3) : call.group(3);
-            call.appendReplacement(asking, Matcher.quoteReplacement("int " + name + " = " + call.group(2)
-                + "; System.out.println(\"due \" + " + name + " + \" \" + (" + due + ") + \" " + call.group(2) + "\");"));
-        }
-        call.appendTail(asking);
-        Check.about("the answers in the example");
-        Check.due("lines with an answer that can be read", calls, example.split("// ").length - 1);
         Path project = copy("answers", PROGRAM);
-        write(project.resolve("Example.java"), asking.toString());
-        Shell shell = Shell.start(project, one(USE, "sh"));
-        int told = calls;
-        asked.add(() -> asAsked(shell.printed(), told));
-    }
-
-    private static void asAsked(String printed, int calls) {
-        Check.about("the answers in the example");
-        Matcher line = Pattern.compile("(?m)^due (\\S+) (\\S+) (.*)$").matcher(printed);
+        write(project.resolve("Example.java"), asking(example));
+        Matcher line = DUE.matcher(Shell.run(project, one(USE, "sh")).printed);
         int found = 0;
         while (line.find()) {
             found++;
             Check.due(line.group(3), Integer.parseInt(line.group(1)), Integer.parseInt(line.group(2)));
         }
-        Check.due("answers", found, calls);
+        Check.due("calls with an answer behind them", found, example.split("// ", -1).length - 1);
+    }
+
+    /** The example, in which each call that has its answer behind it prints both. */
+    private static String asking(String example) {
+        Matcher call = CALL_AND_ANSWER.matcher(example);
+        StringBuilder asking = new StringBuilder();
+        while (call.find()) {
+            String name = call.group(1) == null ? "answer" + call.start() : call.group(1);
+            String due = call.group(3).matches("[A-Z_]+") ? "NoteThemes." + call.group(3) : call.group(3);
+            String line = "int %1$s = %2$s; System.out.println(\"due \" + %1$s + \" \" + (%3$s) + \" %2$s\");";
+            call.appendReplacement(asking, Matcher.quoteReplacement(String.format(line, name, call.group(2), due)));
+        }
+        return call.appendTail(asking).toString();
     }
 
     private static void answers() {
@@ -143,7 +133,7 @@ public final class ReadmeTest {
 
     // ---- how to run its tests
 
-    private void allTests() throws IOException {
+    private void allTests() throws IOException, InterruptedException {
         Path project = small("good");
         runOf("all is well", project, 0, "3 passed, 0 failed");
         runFromElsewhere(project);
@@ -180,40 +170,34 @@ public final class ReadmeTest {
         return project;
     }
 
-    /** Runs the command in the project. */
-    private void runOf(String what, Path project, int exitCode, String lastLine, String... told) throws IOException {
-        List<String> before = files(project);
-        Shell shell = Shell.start(project, Readme.blocks(TESTS, "sh").get(0));
-        asked.add(() -> {
-            ended(what, shell, exitCode, lastLine);
-            for (String line : told) {
-                Check.holds("\"" + line + "\" is told", shell.printed().contains(line));
-            }
-            Check.same("the files of the project", files(project).toString(), before.toString());
-        });
-    }
-
-    private void runFromElsewhere(Path project) throws IOException {
-        Shell shell = Shell.start(folder, "'" + project + "'/" + Readme.blocks(TESTS, "sh").get(0));
-        asked.add(() -> ended("it is called from another folder", shell, 0, "3 passed, 0 failed"));
-    }
-
-    private static void ended(String what, Shell shell, int exitCode, String lastLine) {
+    private void runOf(String what, Path project, int exitCode, String lastLine, String... told)
+            throws IOException, InterruptedException {
         Check.about("the command for all tests, if " + what);
-        Check.due("exit code", shell.exitCode(), exitCode);
+        List<String> before = files(project);
+        Shell shell = Shell.run(project, Readme.blocks(TESTS, "sh").get(0));
+        Check.due("exit code", shell.exitCode, exitCode);
         Check.same("the last line", shell.lastLine(), lastLine);
+        for (String line : told) {
+            Check.holds("\"" + line + "\" is told", shell.printed.contains(line));
+        }
+        Check.same("the files of the project", files(project).toString(), before.toString());
     }
 
-    private void oneTestAlone() throws IOException {
+    private void runFromElsewhere(Path project) throws IOException, InterruptedException {
+        Check.about("the command for all tests, if it is called from another folder");
+        Shell shell = Shell.run(folder, "'" + project + "'/" + Readme.blocks(TESTS, "sh").get(0));
+        Check.due("exit code", shell.exitCode, 0);
+        Check.same("the last line", shell.lastLine(), "3 passed, 0 failed");
+    }
+
+    private void oneTestAlone() throws IOException, InterruptedException {
+        Check.about("the command for one test");
         Path project = copy("alone", PROGRAM);
         copyAll(PROJECTS_TESTS, project.resolve(PROJECTS_TESTS));
         copyAll(SHARED, project.resolve(SHARED));
-        Shell shell = Shell.start(project, Readme.blocks(TESTS, "sh").get(1));
-        asked.add(() -> {
-            Check.about("the command for one test");
-            Check.due("exit code", shell.exitCode(), 0);
-            Check.holds("it has run", shell.lastLine().matches("[0-9]+ checks are as due"));
-        });
+        Shell shell = Shell.run(project, Readme.blocks(TESTS, "sh").get(1));
+        Check.due("exit code", shell.exitCode, 0);
+        Check.holds("it has run", shell.lastLine().matches("[0-9]+ checks are as due"));
     }
 
     private static void tests() throws IOException {
@@ -264,11 +248,9 @@ public final class ReadmeTest {
         Files.writeString(to, text);
     }
 
-    private static List<String> files(Path project) {
+    private static List<String> files(Path project) throws IOException {
         try (Stream<Path> paths = Files.walk(project)) {
             return paths.map(Path::toString).sorted().collect(Collectors.toList());
-        } catch (IOException e) {
-            throw new UncheckedIOException(e);
         }
     }
 }

@@ -1,49 +1,35 @@
 import java.io.File;
 import java.io.IOException;
-import java.io.UncheckedIOException;
 import java.nio.file.Files;
 import java.nio.file.Path;
 
-/** Commands that a shell runs in a folder. Several can run at once, as each is waited for only when it is asked. */
+/** Commands that a shell has run in a folder: how they ended, and what they printed. */
 final class Shell {
-    private final Process process;
-    private final Path printed;
+    final int exitCode;
+    final String printed;
 
-    private Shell(Process process, Path printed) {
-        this.process = process;
+    private Shell(int exitCode, String printed) {
+        this.exitCode = exitCode;
         this.printed = printed;
     }
 
-    /** What they print is kept outside of the folder, so that it holds only what they write there. */
-    static Shell start(Path folder, String commands) throws IOException {
+    /** What they print is kept outside of the folder, so that the folder holds only what they write there. */
+    static Shell run(Path folder, String commands) throws IOException, InterruptedException {
         Path printed = Files.createTempFile("printed", ".txt");
-        printed.toFile().deleteOnExit();
-        ProcessBuilder builder = new ProcessBuilder("sh", "-e", "-c", commands);
-        builder.directory(folder.toFile()).redirectErrorStream(true).redirectOutput(printed.toFile());
-        builder.redirectInput(new File("/dev/null"));
-        return new Shell(builder.start(), printed);
-    }
-
-    int exitCode() {
         try {
-            return process.waitFor();
-        } catch (InterruptedException e) {
-            throw new IllegalStateException(e);
-        }
-    }
-
-    String printed() {
-        exitCode();
-        try {
-            return Files.readString(printed);
-        } catch (IOException e) {
-            throw new UncheckedIOException(e);
+            ProcessBuilder builder = new ProcessBuilder("sh", "-e", "-c", commands);
+            builder.directory(folder.toFile()).redirectErrorStream(true).redirectOutput(printed.toFile());
+            builder.redirectInput(new File("/dev/null"));
+            int exitCode = builder.start().waitFor();
+            return new Shell(exitCode, Files.readString(printed));
+        } finally {
+            Files.delete(printed);
         }
     }
 
     /** The last line that was printed. */
     String lastLine() {
-        String[] lines = printed().split("\n");
+        String[] lines = printed.split("\n");
         return lines[lines.length - 1];
     }
 }
